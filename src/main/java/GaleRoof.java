@@ -150,10 +150,12 @@ public final class GaleRoof {
     public GaleRoof() {
         Tape newTape = new Tape();
         Machine newMachine = new Machine();
-        Gale newGale = new Gale(newMachine);
+        Told newTold = new Told();
+        Told newSpare = new Told();
+        Gale newGale = new Gale(newMachine, newTold);
         Scene newScene = new Scene();
         tape = newTape;
-        reader = new Reader(newTape);
+        reader = new Reader(newTape, newSpare);
         machine = newMachine;
         gale = newGale;
         now = newScene;
@@ -165,8 +167,8 @@ public final class GaleRoof {
         fate = new Fate(newGale, newScene);
         teller = new Teller(newGale, newScene);
         village = new Village();
-        told = new Told();
-        spare = new Told();
+        told = newTold;
+        spare = newSpare;
         faultPlace = NONE;
         layNewRoof();
     }
@@ -894,14 +896,16 @@ public final class GaleRoof {
     private static final class Reader {
         int faultPlace;
         private final Tape tape;
+        /** What is told so far; of a text with a FAULT it is never looked at. */
         private Told told;
         private int at;
         private int fault;
         private int lateFault;
         private int latePlace;
 
-        Reader(Tape tape) {
+        Reader(Tape tape, Told into) {
             this.tape = tape;
+            told = into;
         }
 
         /** The FAULT of the tape, or 0; then all that it tells stands in the Told. */
@@ -1385,8 +1389,9 @@ public final class GaleRoof {
         private int doorsIn;
         private int doorsOut;
 
-        Gale(Machine machine) {
+        Gale(Machine machine, Told told) {
             this.machine = machine;
+            this.told = told;
         }
 
         /** All rounds; where the fallen land is worked out only if it is wanted. */

@@ -344,6 +344,8 @@ public final class PromisesTest {
         due("at none", Check.told("suck = 0;").goes(0, 1, true), -2);
         due("at 0", Check.told("suck = 99; weigh 0;").goes(0, 1, false), 0);
         due("at 99", Check.told("suck = gust; weigh 98; lap 0;").goes(0, 1, false), 99);
+        due("not at 100", Check.told("suck = gust; weigh 99; lap 0;").goes(0, 1, false), -2);
+        due("not at 100", Check.told("suck = gust; weigh 99; lap 0;").goes(0, 1, true), -2);
         due("less is more", Check.told("suck = 100 - gust; weigh 98; lap 0;").goes(0, 1, false), 0);
     }
 
@@ -360,6 +362,8 @@ public final class PromisesTest {
         due("no WAY", x.first(-1, false), -1);
         due("none", Check.told("suck = 0;").first(1, false), -2);
         due("none", Check.told("suck = 0;").first(1, true), -2);
+        due("not at 100", Check.told("suck = gust; weigh 99; lap 0;").first(0, true), -2);
+        due("at 99", Check.told("suck = gust; weigh 98; lap 0;").first(0, true), 99);
         due("top row first", Check.told(CHAIN).first(1, false), 4);
     }
 
@@ -500,6 +504,8 @@ public final class PromisesTest {
         due("EVER", x.ever(1, 1), 34);
         due("EVER", x.ever(2, 1), -2);
         due("EVER at none", x.ever(0, 0), -2);
+        due("EVER at 99", Check.told("suck = 0; press = gust * inlet; weigh 98; lap 0; door a 1 1 open;").ever(0, 1), 99);
+        due("EVER not at 100", Check.told("suck = 0; press = gust * inlet; weigh 99; lap 0; door a 1 1 open;").ever(0, 1), -2);
         for (int[] w : new int[][] {{3, 0, 0}, {-1, 0, 0}, {0, 100, 0}, {0, -1, 0}, {0, 0, 4}, {0, 0, -1}}) {
             due("no such", x.helps(w[0], w[1], w[2]), -100);
         }
@@ -564,6 +570,21 @@ public final class PromisesTest {
         x.set(5, 1, 0);
         due("NAILED with AGE 0", x.nailing(1), 4);
         due("NAILED with AGE 0", x.nailingAt(1, 0), 5);
+        GaleRoof pair = Check.told("roof 2 3 0; weigh 0; lap 0; press = 0; suck = 1 - (row * 3 + col - 3) * (row * 3 + col - 4);");
+        pair.gust(50, 0, 1);
+        due("two side by side go", pair.harm(), 2);
+        due("NAILING 2", pair.nailing(2), 0);
+        due("NAILING 2", pair.nailingAt(2, 0) * 10 + pair.nailingAt(2, 1), 34);
+        pair.there(3, false);
+        due("the last of HARM", pair.nailing(1), 0);
+        due("the last of HARM", pair.nailingAt(1, 0), 4);
+        due("the fewest", pair.nailingAt(2, 1), -1);
+        // 12 at most: of 36 that go 24 are left.
+        GaleRoof many = Check.told("roof 6 6 0; weigh 0; lap 0; press = 0; suck = 1;");
+        many.gust(0, 0, 1);
+        due("ONE BY ONE 12", many.onebyone(12), 24);
+        due("ONE BY ONE 12", many.onebyoneAt(12, 11), 11);
+        due("ONE BY ONE 12", many.onebyoneAt(12, 12), -1);
         plansAreOfTheRoofAsItIs();
     }
 
@@ -653,6 +674,13 @@ public final class PromisesTest {
         y.gust(7, 0, 1);
         due("round and round", y.night(3), 3);
         due("80 at most", y.night(4), -2);
+        // From WAY 0 all go as soon as there is a hole; from WAY 1 the first TILE goes.
+        GaleRoof z = Check.told("roof 2 2 0; weigh 0; lap 0; press = 0; suck = (1 - way) * holes + way * (1 - row - col);");
+        z.gust(5, 0, 1);
+        z.gust(5, 1, 1);
+        due("the second takes one", z.night(1), 2);
+        due("the first, again, takes all", z.night(2), 3);
+        due("the first, again, takes all", z.night(4), 3);
     }
 
     private void p39To41Years() {
@@ -666,6 +694,8 @@ public final class PromisesTest {
         due("odds", x.odds(5, 50, 60, 1), 50);
         due("odds", x.odds(5, 50, 60, 2), 0);
         due("odds", x.odds(5, 1, 0, 0), 1);
+        due("odds", x.odds(5, 50, 60, 36), 0);
+        due("odds of all", Check.told("roof 6 6 0; weigh 0; lap 0; suck = 1; press = 0;").odds(-3, 7, 1, 36), 7);
         due("no k", x.years(5, 61), -1);
         due("no k", x.years(5, -1), -1);
         int[][] wrong = {{0, 0, 0}, {51, 0, 0}, {1, 61, 0}, {1, -1, 0}, {1, 0, 37}, {1, 0, -1}, {HIGH, 0, 0}};
@@ -737,6 +767,14 @@ public final class PromisesTest {
         x.set(2, 1, 1);
         due("but as it is else", x.yardTells(2), 1);
         due("but as it is else", x.yardTells(3), 5);
+        GaleRoof y = Check.told(COLUMNS);
+        y.there(5, false);
+        y.blow(10, 0);
+        due("one that lies there not", y.yardTells(2), 1);
+        due("one that lies there not", y.yardTells(0), 10);
+        GaleRoof z = Check.told("roof 2 2 0; weigh 98; lap 0; press = 0; suck = gust + way / 3;");
+        z.blow(99, 2);
+        due("the last GUST", z.yardTells(0) * 10 + z.yardTells(1), 992);
     }
 
     private void p43To48Village() {
@@ -839,10 +877,41 @@ public final class PromisesTest {
         x.hold(2);
         x.hold(0);
         due("SLOTS", x.count(9), 2);
+        slotsHoldWhatStood();
         Check.read(x, "lap 100;");
         due("SLOTS behind a FAULT", x.count(9), 2);
         x.read();
         due("SLOTS behind a text", x.count(9), 0);
+    }
+
+    /** Each SLOT by itself: what is told anew in the same place comes back as it was held. */
+    private void slotsHoldWhatStood() {
+        GaleRoof x = Check.told(COLUMNS);
+        x.hold(0);
+        x.car(2204);
+        x.gust(10, 0, 2);
+        x.hold(1);
+        x.restore(0);
+        due("nothing yet", x.count(6) + x.count(7), 0);
+        x.car(1000);
+        x.gust(11, 3, 9);
+        x.hold(0);
+        due("HARM", x.harm(), 54);
+        x.restore(1);
+        due("GUST and weight", x.harm(), 8);
+        due("BLOWN", x.blow(9, 0), 2);
+        due("the CAR's CELL", x.hits(0), 1);
+        x.restore(0);
+        due("HARM", x.harm(), 54);
+        due("hits", x.hits(0), 0);
+        GaleRoof y = Check.told("roof 2 2 0; weigh 0; lap 0; press = 0; suck = way;");
+        y.gust(9, 1, 1);
+        y.hold(0);
+        y.calm();
+        y.gust(9, 0, 1);
+        due("from WAY 0 none goes", y.harm(), 0);
+        y.restore(0);
+        due("WAY", y.harm(), 4);
     }
 
     private void p51Count() {
