@@ -98,6 +98,12 @@ public final class PromisesTest {
         fault("door nails 0 1;", 1, 5);
         fault("door a 0 1 shut;", 1, 11);
         fault("door A 0 1;", 1, 5);
+        fault("door az 0 1; door za 0 1; door aaaaaaa 0 1; door zzzzzzzz 0 1; door roofs 0 1;", 0, -1);
+        fault("door ` 0 1;", 1, 5);
+        fault("door { 0 1;", 1, 5);
+        fault("lap :;", 1, 4);
+        fault("lap 99;lap 09;\u000b", 1, 14);
+        fault("lap \u00b9;", 1, 4);
         fault("lap 1;;", 1, 6);
         fault("suck == 1;", 1, 5);
         fault("suck = 1 = 2;", 1, 9);
@@ -579,6 +585,15 @@ public final class PromisesTest {
         due("the last of HARM", pair.nailing(1), 0);
         due("the last of HARM", pair.nailingAt(1, 0), 4);
         due("the fewest", pair.nailingAt(2, 1), -1);
+        // If one of the two in the middle goes, all go, nailed or not: one nail alone is no help.
+        GaleRoof both = Check.told("roof 2 2 0; weigh 0; lap 0; press = 0; suck = holes * 99 + 1 - (row + col - 1) * (row + col - 1);");
+        both.gust(50, 0, 1);
+        due("one is no help", both.nailing(1), 4);
+        due("one is no help", both.nailingAt(1, 0), -1);
+        due("two are", both.nailing(2), 0);
+        due("two are", both.nailingAt(2, 0) * 10 + both.nailingAt(2, 1), 12);
+        due("ONE BY ONE finds none", both.onebyone(12), 4);
+        due("ONE BY ONE finds none", both.onebyoneAt(12, 0), -1);
         // 12 at most: of 36 that go 24 are left.
         GaleRoof many = Check.told("roof 6 6 0; weigh 0; lap 0; press = 0; suck = 1;");
         many.gust(0, 0, 1);
@@ -681,6 +696,26 @@ public final class PromisesTest {
         due("the second takes one", z.night(1), 2);
         due("the first, again, takes all", z.night(2), 3);
         due("the first, again, takes all", z.night(4), 3);
+        eightyAtMost();
+    }
+
+    /** One TILE after the other, each only from the WAY that its third tells: three in eight GUSTS. */
+    private void eightyAtMost() {
+        String law = "roof 6 6 0; weigh 0; lap 0; press = 0; suck = 1 - (holes - row * 6 - col) * (holes - row * 6 - col) - (way - third) * (way - third);";
+        GaleRoof x = Check.told(law);
+        x.there(0, false);
+        for (int way : new int[] {3, 2, 1, 0}) {
+            x.gust(50, way, 1);
+        }
+        due("the 30th behind 78", x.night(30), 78);
+        due("the 31st behind 80", x.night(31), 80);
+        due("the 32nd not in 80", x.night(32), -2);
+        GaleRoof y = Check.told(law);
+        for (int way : new int[] {2, 3, 1, 0}) {
+            y.gust(50, way, 1);
+        }
+        due("the 29th behind 79", y.night(29), 79);
+        due("the 30th would be behind 81", y.night(30), -2);
     }
 
     private void p39To41Years() {
@@ -709,6 +744,10 @@ public final class PromisesTest {
         due("YEARS", y.years(1, 3), 4);
         due("lasts", y.lasts(1), 2);
         due("odds", y.odds(HIGH, 50, 3, 4), 50);
+        due("in the last YEAR", Check.told("weigh 59; lap 0; press = 0; suck = age;").lasts(1), 59);
+        due("not in YEAR 60", Check.told("weigh 60; lap 0; press = 0; suck = age;").lasts(1), -2);
+        due("behind 60 YEARS", Check.told("weigh 59; lap 0; press = 0; suck = age;").years(1, 60), 16);
+        due("not behind 59", Check.told("weigh 59; lap 0; press = 0; suck = age;").years(1, 59), 0);
         due("AGE 99 at most", Check.told("weigh 99; lap 0; press = 0; suck = age; years 99;").lasts(9), -2);
         due("the ROOF stays", y.tile(0, 3) + y.count(4), 7);
     }
@@ -829,6 +868,10 @@ public final class PromisesTest {
         }
         due("no what", x.village(0, 0, 4), -1);
         due("no what", x.village(0, 0, -1), -1);
+        GaleRoof old = new GaleRoof();
+        old.house(99, 0, 0, 0);
+        due("older than all", old.line(1, 1, false), 100);
+        due("older than all", old.line(1, 1, true), 1);
         GaleRoof full = Check.told("warn if age < 30;");
         for (int i = 0; i < 60; i++) {
             due("HOUSE", full.house(i, 0, 0, i % 2), i);
