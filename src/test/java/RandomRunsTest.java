@@ -282,7 +282,7 @@ public final class RandomRunsTest {
 
     public static void main(String[] args) {
         Check check = new Check("RandomRunsTest");
-        int runs = args.length > 0 ? Integer.parseInt(args[0]) : 400;
+        int runs = args.length > 0 ? Integer.parseInt(args[0]) : 2000;
         long from = args.length > 1 ? Long.parseLong(args[1]) : 1;
         for (long seed = from; seed < from + runs && check.allRight(); seed++) {
             new RandomRunsTest(check, seed).run(80);
