@@ -71,4 +71,14 @@ final class Check {
         }
         return roof;
     }
+
+    /** LOT n of a SEED and a which, from the document's words. */
+    static int lot(int n, int seed, int which) {
+        int h = seed;
+        h = (h ^ 16) * 1103515245 + 12345;
+        h ^= h >>> 15;
+        h = (h ^ which) * 1103515245 + 12345;
+        h ^= h >>> 15;
+        return (h >>> 1) % n;
+    }
 }

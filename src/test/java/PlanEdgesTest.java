@@ -71,6 +71,24 @@ public final class PlanEdgesTest {
         GaleRoof y = allGone(ALL_GO);
         y.gust(50, 0, 9);
         due("HARM if all are GONE", y.harm(), 0);
+        // One TILE for each GUST 0, 1, 98, 99 and one for each WAY: GUST and WAY are what was told.
+        GaleRoof z = Check.told("roof 2 4 0; " + BARE + "suck = 1 - (1 - row) * (gust - col - col / 2 * 96) * (gust - col - col / 2 * 96) - row * (way - col) * (way - col);");
+        int[] gusts = {0, 1, 98, 99};
+        for (int i = 0; i < 4; i++) {
+            z.gust(gusts[i], 3 - i, 1 + 2 * i);
+            due("each GUST and each WAY takes one", z.harm(), 2 * (i + 1) * (i + 1));
+        }
+        z.there(0, false);
+        due("but for that of GUST 0", z.harm(), 31);
+        z.there(0, true);
+        z.there(3, false);
+        due("but for that of GUST 99", z.harm(), 25);
+        z.there(3, true);
+        z.there(4, false);
+        due("but for that of WAY 0", z.harm(), 25);
+        z.there(4, true);
+        z.there(7, false);
+        due("but for that of WAY 3", z.harm(), 31);
     }
 
     // ---- promises 29 to 31
@@ -129,6 +147,7 @@ public final class PlanEdgesTest {
         two.open(1, true);
         due("both open: 4 without the first", two.ever(0, 0), 4);
         due("both open: 4 without the last", two.ever(1, 0), 4);
+        due("not at a GUST below 0", Check.told("roof 2 2 0; " + BARE + "door a 2 1 open; suck = 0 - outlet * gust;").ever(0, 0), -2);
         GaleRoof gone = allGone("roof 2 2 0; " + BARE + "door a 2 1; suck = 1 - outlet;");
         due("all GONE: no help", gone.helps(0, 50, 0), 0);
         due("all GONE: never", gone.ever(0, 0), -2);
@@ -177,6 +196,42 @@ public final class PlanEdgesTest {
         due("AGE is what it was", old.tile(0, 3), 99);
         GaleRoof young = ahead(Check.told("roof 6 6 0; " + BARE + "nail 0; years 1; suck = age;"));
         due("AGE 0 is seen by the law", young.nailing(1), 35);
+    }
+
+    /** Asked of a new object, or behind another n. */
+    private void nailsAskedAlone() {
+        for (int n = -2; n <= 4; n++) {
+            GaleRoof x = ahead(Check.told(ALL_GO));
+            due("the first of " + n, x.nailingAt(n, 0), n == 1 || n == 2 ? 0 : -1);
+            due("the second of " + n, x.nailingAt(n, 1), n == 2 ? 1 : -1);
+            GaleRoof y = ahead(Check.told(ALL_GO));
+            due("the second of " + n, y.nailingAt(n, 1), n == 2 ? 1 : -1);
+            due("HARM of 2 behind it", y.nailing(2), 34);
+            due("HARM of " + n, y.nailing(n), n < 0 || n > 2 ? -1 : 36 - n);
+        }
+        for (int n = -1; n <= 13; n++) {
+            GaleRoof x = ahead(Check.told(ALL_GO));
+            due("the last of " + n, x.onebyoneAt(n, n - 1), n < 1 || n > 12 ? -1 : n - 1);
+            due("the third of 4 behind it", x.onebyoneAt(4, 2), 2);
+            due("HARM of " + n, x.onebyone(n), n < 0 || n > 12 ? -1 : 36 - n);
+        }
+        // Neither of a pair is any good alone, and neither is the first that could be nailed.
+        GaleRoof pair = ahead(Check.told("roof 2 3 0; " + BARE + "suck = holes * 99 + 1 - (row + col - 2) * (row + col - 2);"));
+        due("one alone is no help", pair.nailing(1), 6);
+        due("none is chosen", pair.nailingAt(1, 0), -1);
+        due("both are", pair.nailing(2), 0);
+        due("the first of both", pair.nailingAt(2, 0), 2);
+        due("the second of both", pair.nailingAt(2, 1), 4);
+        // One alone is some help, but it is none of the two that are most.
+        GaleRoof better = ahead(Check.told("roof 2 3 0; " + BARE + "nail 99; suck = holes * 20 + 1 - (row + col - 2) * (row + col - 2);"));
+        due("one alone saves itself", better.nailing(1), 5);
+        due("the first that does", better.nailingAt(1, 0), 0);
+        due("two save all", better.nailing(2), 0);
+        due("the first of the two", better.nailingAt(2, 0), 2);
+        due("the second of the two", better.nailingAt(2, 1), 4);
+        due("ONE BY ONE goes by single steps", better.onebyone(2), 4);
+        due("the first step", better.onebyoneAt(2, 0), 0);
+        due("the second step", better.onebyoneAt(2, 1), 1);
     }
 
     private void nailsForWhatIsThereAndBare() {
@@ -295,6 +350,7 @@ public final class PlanEdgesTest {
         due("MOSS 1 holds all", moss.harm(), 0);
         due("MOSSLESS at its most", moss.without(1), 1296);
         due("MOSS as it was", moss.tile(35, 4), 1);
+        due("MOSSLESS with a LIFT of 0", ahead(Check.told("roof 2 2 0; " + BARE + "moss 1; suck = 0;")).without(1), 0);
         GaleRoof light = ahead(Check.told("roof 6 6 0; " + BARE + "moss 1; suck = grown * 2;"));
         due("MOSS that lifts", light.without(1), -36);
         GaleRoof felt = Check.told("roof 6 6 0; weigh 0; lap 0; suck = 0; press = 1;");
@@ -326,6 +382,8 @@ public final class PlanEdgesTest {
         due("without FELT", felt.neglect(0, 0), 4);
         felt.felt(true);
         due("as FELT lies", felt.neglect(0, 0), 0);
+        due("without MOSS a LIFT of 0", Check.told("roof 2 2 0; " + BARE + "moss 1; suck = grown * 2;").neglect(0, 0), 4);
+        due("at AGE 0 a LIFT of 0", Check.told("roof 2 2 0; " + BARE + "years 1; suck = 2 - age * 2;").neglect(0, 0), -4);
         due("no GUST", x.neglect(100, 0), -100);
         due("no WAY", x.neglect(0, 4), -100);
     }
@@ -346,6 +404,9 @@ public final class PlanEdgesTest {
         x.there(35, false);
         due("one already", x.night(1), 0);
         due("two behind one", x.night(2), 1);
+        x.calm();
+        due("one already, though none is told ahead", x.night(1), 0);
+        due("two never, as none is told ahead", x.night(2), -2);
         GaleRoof gone = ahead(allGone(ALL_GO));
         due("36 already", gone.night(36), 0);
         GaleRoof small = ahead(Check.told("roof 2 2 0; " + BARE + "suck = 1;"));
@@ -382,18 +443,16 @@ public final class PlanEdgesTest {
         // TILE 0 at the 4th, 1 at the 7th, 2 at the 9th; 3 at the 12th ..: three in eight.
         due("the 29th", slower.night(29), 79);
         due("the 30th would be the 81st", slower.night(30), -2);
+        // With TILE 0 GONE and the WAYS the other way round the 31st is GONE behind the 80th GUST.
+        GaleRoof eighty = told(law, 0);
+        for (int way = 3; way >= 0; way--) {
+            eighty.gust(0, way, 1);
+        }
+        due("behind the 80th", eighty.night(31), 80);
+        due("not one more", eighty.night(32), -2);
     }
 
     // ---- promises 39 to 41
-
-    private static int lot(int n, int seed, int which) {
-        int h = seed;
-        h = (h ^ 16) * 1103515245 + 12345;
-        h ^= h >>> 15;
-        h = (h ^ which) * 1103515245 + 12345;
-        h ^= h >>> 15;
-        return (h >>> 1) % n;
-    }
 
     private void yearsAtTheirEnds() {
         GaleRoof all = Check.told(ALL_GO);
@@ -409,6 +468,9 @@ public final class PlanEdgesTest {
         due("all GONE, behind none", gone.years(1, 0), 36);
         due("all GONE, behind 60", gone.years(1, 60), 36);
         due("none of those that are there", gone.lasts(1), -2);
+        GaleRoof single = Check.told("roof 2 2 0; " + BARE + "suck = 1 - row - col;");
+        due("only one goes", single.lasts(1), 0);
+        due("only one goes", single.years(1, 60), 1);
         GaleRoof one = told(ALL_GO, 35);
         due("one GONE, behind none", one.years(1, 0), 1);
         due("one GONE, then all", one.years(1, 1), 36);
@@ -434,8 +496,8 @@ public final class PlanEdgesTest {
     private void lotsAtTheirEnds() {
         for (int seed : new int[] {0, 1, -1, HIGH, LOW, HIGH - 1, LOW + 1, 16, 12345}) {
             int year = 3;
-            int gust = lot(100, seed, 2 * year);
-            int way = lot(4, seed, 2 * year + 1);
+            int gust = Check.lot(100, seed, 2 * year);
+            int way = Check.lot(4, seed, 2 * year + 1);
             // In YEAR 3 alone, by just that GUST and WAY.
             String law = "roof 2 2 0; " + BARE + "suck = 1 - (age - 4) * (age - 4) * 99 - (gust - " + gust + ") * (gust - " + gust + ") - (way - " + way + ") * (way - " + way + ");";
             GaleRoof x = Check.told(law);
@@ -443,8 +505,8 @@ public final class PlanEdgesTest {
             due("LOTS of " + seed, x.years(seed, 3) * 10 + x.years(seed, 4), 4);
         }
         // The last YEAR's LOTS are 118 and 119.
-        int gust = lot(100, 77, 118);
-        int way = lot(4, 77, 119);
+        int gust = Check.lot(100, 77, 118);
+        int way = Check.lot(4, 77, 119);
         GaleRoof last = Check.told("roof 2 2 0; " + BARE + "suck = 1 - (age - 60) * (age - 60) * 99 - (gust - " + gust + ") * (gust - " + gust + ") - (way - " + way + ") * (way - " + way + ");");
         due("LOTS of YEAR 59", last.lasts(77), 59);
         due("LOTS of YEAR 59", last.years(77, 59) * 10 + last.years(77, 60), 4);
@@ -471,10 +533,10 @@ public final class PlanEdgesTest {
             GaleRoof x = Check.told("roof 2 2 0; " + BARE + "suck = 50 - gust;");
             int such = 0;
             for (int i = 0; i < 50; i++) {
-                such += lot(100, seed + i, 0) < 50 ? 1 : 0;
+                such += Check.lot(100, seed + i, 0) < 50 ? 1 : 0;
             }
             due("SEEDS from " + seed + " on", x.odds(seed, 50, 1, 4), such);
-            due("SEEDS from " + seed + " on, one alone", x.odds(seed, 1, 1, 1), lot(100, seed, 0) < 50 ? 1 : 0);
+            due("SEEDS from " + seed + " on, one alone", x.odds(seed, 1, 1, 1), Check.lot(100, seed, 0) < 50 ? 1 : 0);
         }
     }
 
@@ -514,6 +576,19 @@ public final class PlanEdgesTest {
         yardTells("a whole ROOF", more, 7, 0, 2, 0);
         more.set(0, 4, 1);
         yardTells("else as it is", more, 0, 0, 3, -2);
+        // What lies as only a GUST of 100, or one below 0, would have it.
+        GaleRoof above = Check.told("roof 2 2 0; " + BARE + "far = 0; years 1; suck = gust + age - 99;");
+        above.blow(99, 0);
+        for (int t = 0; t < 4; t++) {
+            above.set(t, 3, 0);
+        }
+        yardTells("no GUST is 100", above, 0, 0, 4, -2);
+        GaleRoof below = Check.told("roof 2 2 0; " + BARE + "far = 0; years 1; suck = age - gust;");
+        below.blow(0, 0);
+        for (int t = 0; t < 4; t++) {
+            below.set(t, 3, 0);
+        }
+        yardTells("no GUST is below 0", below, 0, 0, 4, -2);
         // The first in ORDER, not in number.
         GaleRoof order = Check.told("roof 2 2 0; " + BARE + "suck = row + col - 1 + holes;");
         order.blow(50, 0);
@@ -564,6 +639,20 @@ public final class PlanEdgesTest {
         due("behind it is opened", y.yardTells(2), 0);
         y.felt(true);
         due("behind FELT", y.yardTells(2), 4);
+        GaleRoof z = ahead(Check.told("roof 2 2 0; " + BARE + "far = 0; suck = 1;"));
+        due("told", z.nailing(1) * 10 + z.onebyone(1), 33);
+        due("empty", z.yardTells(2), 4);
+        z.blow(0, 0);
+        due("behind a blow", z.nailing(1) * 10 + z.onebyone(1), 0);
+        due("behind a blow", z.yardTells(2), 0);
+        z.there(0, true);
+        z.there(1, true);
+        due("behind there", z.nailing(1) * 10 + z.onebyone(1), 11);
+        ahead(z);
+        due("behind a GUST more", z.nailing(1) * 10 + z.onebyone(1), 22);
+        z.calm();
+        due("behind calm", z.nailing(1) * 10 + z.onebyone(1), 0);
+        due("behind calm", z.nailingAt(1, 0) * 10 + z.onebyoneAt(1, 0), -11);
     }
 
     public static void main(String[] args) {
@@ -572,6 +661,7 @@ public final class PlanEdgesTest {
         test.doorsAtTheirEnds();
         test.doorsHelp();
         test.nailsAtTheirEnds();
+        test.nailsAskedAlone();
         test.nailsForWhatIsThereAndBare();
         test.oneByOne();
         test.thirdsMossFelt();

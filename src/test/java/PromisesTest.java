@@ -755,8 +755,8 @@ public final class PromisesTest {
     /** By hand, once more from the words: tile by tile that GUST and WAY which the LOT tells. */
     private void lotsAreTheDocuments() {
         for (int seed : new int[] {0, 1, 5, -7, HIGH, LOW}) {
-            int gust = lot(100, seed, 0);
-            int way = lot(4, seed, 1);
+            int gust = Check.lot(100, seed, 0);
+            int way = Check.lot(4, seed, 1);
             GaleRoof x = Check.told("weigh 0; lap 0; press = 0; suck = 1 - (gust - " + gust + ") * (gust - " + gust + ") - (way - " + way + ") * (way - " + way + ");");
             due("LOTS of " + seed, x.years(seed, 1), 16);
             due("LOTS of " + seed, x.lasts(seed), 0);
@@ -764,19 +764,10 @@ public final class PromisesTest {
         int[] gusts = {2, 74, 81, 67, 36};
         int[] ways = {1, 3, 2, 2, 3};
         for (int y = 0; y < gusts.length; y++) {
-            due("LOT 100 of 5", lot(100, 5, 2 * y), gusts[y]);
-            due("LOT 4 of 5", lot(4, 5, 2 * y + 1), ways[y]);
+            due("LOT 100 of 5", Check.lot(100, 5, 2 * y), gusts[y]);
+            due("LOT 4 of 5", Check.lot(4, 5, 2 * y + 1), ways[y]);
         }
-        due("LOT 100 of -7", lot(100, -7, 0), 78);
-    }
-
-    private static int lot(int n, int seed, int which) {
-        int h = seed;
-        h = (h ^ 16) * 1103515245 + 12345;
-        h ^= h >>> 15;
-        h = (h ^ which) * 1103515245 + 12345;
-        h ^= h >>> 15;
-        return (h >>> 1) % n;
+        due("LOT 100 of -7", Check.lot(100, -7, 0), 78);
     }
 
     private void p42YardTells() {

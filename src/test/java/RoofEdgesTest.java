@@ -179,18 +179,67 @@ public final class RoofEdgesTest {
         due("F or F or T", holds(f + " or " + f + " or " + t), true);
         due("not F and F", holds("not " + f + " and " + f), false);
         due("not T or T", holds("not " + t + " or " + t), true);
-        int[][] pairs = {{3, 4}, {4, 4}, {5, 4}};
+        int[][] pairs = {{3, 4}, {4, 4}, {5, 4}, {0, 1}, {1, 0}, {0, 0}};
         for (int[] p : pairs) {
             String a = p[0] + " ";
             String b = " " + p[1];
-            due(a + "==" + b, holds(a + "==" + b), p[0] == p[1]);
-            due(a + "!=" + b, holds(a + "!=" + b), p[0] != p[1]);
-            due(a + "<" + b, holds(a + "<" + b), p[0] < p[1]);
-            due(a + "<=" + b, holds(a + "<=" + b), p[0] <= p[1]);
+            joins(a + "==" + b, p[0] == p[1]);
+            joins(a + "!=" + b, p[0] != p[1]);
+            joins(a + "<" + b, p[0] < p[1]);
+            joins(a + "<=" + b, p[0] <= p[1]);
+        }
+    }
+
+    /** A LIT by itself, behind 'not', and with each other that holds or does not. */
+    private void joins(String lit, boolean is) {
+        due(lit, holds(lit), is);
+        due("not " + lit, holds("not " + lit), !is);
+        due("not not " + lit, holds("not not " + lit), is);
+        String[] others = {"1 == 1", "1 != 2", "1 < 2", "1 <= 1", "1 == 2", "1 != 1", "2 < 1", "2 <= 1"};
+        for (int i = 0; i < others.length; i++) {
+            boolean other = i < 4;
+            due(lit + " and " + others[i], holds(lit + " and " + others[i]), is && other);
+            due(others[i] + " and " + lit, holds(others[i] + " and " + lit), is && other);
+            due(lit + " or " + others[i], holds(lit + " or " + others[i]), is || other);
+            due(others[i] + " or " + lit, holds(others[i] + " or " + lit), is || other);
+            due("not " + lit + " and " + others[i], holds("not " + lit + " and " + others[i]), !is && other);
         }
     }
 
     // ---- bare, holes, inlet, outlet; promises 9 to 12
+
+    /** Each hole by itself, told of by each TILE: one beside it, and only one, has a hole more beside it. */
+    private void besideEachHole() {
+        for (int[] size : new int[][] {{2, 2}, {2, 6}, {6, 2}, {3, 4}, {6, 6}}) {
+            int cols = size[1];
+            int tiles = size[0] * cols;
+            for (int hole = 0; hole < tiles; hole++) {
+                GaleRoof x = gone(Check.told("roof " + size[0] + " " + cols + " 0; suck = bare;"), hole);
+                for (int t = 0; t < tiles; t++) {
+                    int apart = Math.abs(t / cols - hole / cols) + Math.abs(t % cols - hole % cols);
+                    due("TILE " + t + " of " + cols + " cols beside hole " + hole, x.lift(t, 0, 0, 0), apart == 1 ? 1 : 0);
+                }
+            }
+        }
+    }
+
+    /** Each VAR of a law at its ends. */
+    private void varsOfALaw() {
+        String doors = "door a 1 9 open; door b 3 8 open; ";
+        GaleRoof x = Check.told("roof 3 3 1; years 99; moss 98; nailed if third == 1; " + doors
+            + "suck = edge + gust * 10 + way * 1000 + age * 5000; press = grown + nails * 100 + inlet * 1000 + outlet * 9999;");
+        for (int t = 0; t < 9; t++) {
+            int edge = t == 4 ? 0 : t % 2 == 1 ? 1 : 2;
+            due("edge, gust, way, age", x.lift(t, 99, 3, 0), edge + 990 + 3000 + 495000);
+            due("edge, gust, way, age", x.lift(t, 0, 0, 0), edge + 495000);
+            due("grown, nails, inlet, outlet", x.lift(t, 0, 1, 1), 98 + (t % 3 == 1 ? 100 : 0) + 9000 + 8 * 9999);
+        }
+        x.set(1, 3, 0);
+        x.set(1, 4, 0);
+        x.set(1, 1, 0);
+        due("age 0", x.lift(1, 0, 0, 0), 1);
+        due("grown 0, nails 0", x.lift(1, 0, 3, 1), 8000 + 9 * 9999);
+    }
 
     private void bareAndHoles() {
         String law = "roof 3 3 0; suck = bare * 100 + holes;";
@@ -426,6 +475,12 @@ public final class RoofEdgesTest {
         due("first at none", never.first(3, true), -2);
         due("first at none", never.first(3, false), -2);
         due("at once", Check.told(BARE + "suck = 1;").goes(0, 0, false), 0);
+        // No GUST is below 0.
+        GaleRoof below = Check.told(BARE + "suck = 0 - gust;");
+        due("at none", below.goes(0, 0, false), -2);
+        due("far at none", below.goes(0, 0, true), -2);
+        due("first at none", below.first(0, true), -2);
+        due("first at none", below.first(0, false), -2);
         // TILE 0 goes by the holes that others leave: in the first round later, or never.
         GaleRoof far = Check.told(BARE + "suck = (gust - 20) * (row + col) + holes - 1;");
         due("the first round at none", far.goes(0, 0, false), -2);
@@ -492,6 +547,33 @@ public final class RoofEdgesTest {
         GaleRoof hold = Check.told("weigh 20; lap 0; press = 0; suck = gust;");
         due("LIFT 0: none", hold.fall(20, 0, 0), 0);
         due("LIFT 1: all", hold.fall(21, 0, 0), 16);
+    }
+
+    /** Each call by itself, and behind others that look at another GUST. */
+    private void eachCallAlone() {
+        String text = "roof 2 3 0; weigh 10; lap 0; press = 0; suck = gust + col + holes; far = row + col * 2;";
+        // At GUST 9 col 2 goes, then all others at once; at 8 none does.
+        due("round, first of all", Check.told(text).round(1, 9, 0), 1);
+        due("lands, first of all", Check.told(text).lands(1, 9, 0), 2102);
+        due("fallen, first of all", Check.told(text).fallen(9, 0, 3), 1);
+        due("fall, first of all", Check.told(text).fall(9, 0, 1), 2);
+        due("worst, first of all", Check.told(text).worst(9, 0), 2000);
+        GaleRoof x = Check.told(text);
+        due("round", x.round(5, 9, 0), 0);
+        due("round at a GUST less", x.round(5, 8, 0), -2);
+        due("fall at that GUST", x.fall(8, 0, 0), 0);
+        due("round behind it", x.round(0, 9, 0), 1);
+        due("lift in between", x.lift(0, 99, 3, 0), 99);
+        due("round behind it", x.round(1, 9, 0), 1);
+        due("lands at a GUST less", x.lands(1, 8, 0), -2);
+        due("lands behind it", x.lands(1, 9, 3), 1002);
+        due("worst at a GUST less", x.worst(8, 0), -2);
+        due("fallen behind it", x.fallen(9, 0, 0), 2);
+        due("lands behind a round", x.lands(5, 9, 2), 205);
+        x.harm();
+        due("fall behind HARM", x.fall(9, 0, 0), 6);
+        x.there(5, false);
+        due("as it is now", x.fall(8, 0, 0), 5);
     }
 
     private void cellsOfLanding() {
@@ -566,6 +648,30 @@ public final class RoofEdgesTest {
         due("the next is the second", y.car(0), 1);
     }
 
+    /** One TILE on each CELL at the ends of the sides and lines: it lies there, on that CELL alone, and hits the CAR there alone. */
+    private void cellsAreApart() {
+        for (int way = 0; way < 4; way++) {
+            for (int line = 0; line <= 5; line += 5) {
+                for (int far : new int[] {0, 1, 18, 19}) {
+                    GaleRoof x = Check.told("roof 6 6 0; " + BARE + "suck = age + grown; far = grown;");
+                    int tile = 7 * line;
+                    x.set(tile, 3, 1);
+                    x.set(tile, 4, far);
+                    int cell = 1000 * (way ^ 2) + 100 * line + far;
+                    x.car(far > 0 ? cell - 1 : line > 0 ? cell - 81 : cell == 0 ? 3519 : cell - 481);
+                    x.car(cell);
+                    x.car(far < 19 ? cell + 1 : line < 5 ? cell + 81 : cell == 3519 ? 0 : cell + 481);
+                    due("one goes", x.blow(0, way), 1);
+                    for (int i = 0; i < 480; i++) {
+                        int other = i / 120 * 1000 + i / 20 % 6 * 100 + i % 20;
+                        due("CELL " + other + " when one lies on " + cell, x.yard(other), other == cell ? 1 : 0);
+                    }
+                    due("the CAR there alone", x.hits(0) * 100 + x.hits(1) * 10 + x.hits(2), 10);
+                }
+            }
+        }
+    }
+
     /** What lies on one CELL, and how often a CAR was hit, is counted well above a byte. */
     private void manyOnOneCell() {
         GaleRoof x = Check.told("roof 6 2 0; " + BARE + "suck = 1 - col; far = 0;");
@@ -591,6 +697,11 @@ public final class RoofEdgesTest {
         due("all on one", Check.told("roof 6 2 0; " + BARE + "suck = col;").worst(0, 0), 2100);
         due("the greatest CELL", gone(Check.told("roof 6 6 0; " + BARE + "suck = row * 6 + col - 34; far = 19;")).worst(0, 1), 3519);
         due("the least CELL", Check.told("roof 6 6 0; " + BARE + "suck = 1 - row * 6 - col; far = 0;").worst(0, 2), 0);
+        GaleRoof all = Check.told("roof 6 6 0; " + BARE + "suck = 1; far = 0;");
+        due("36 go", all.worst(0, 0), 2000);
+        due("36 go", all.worst(0, 3), 1000);
+        all.blow(0, 1);
+        due("none is left", all.worst(0, 0), -2);
         due("nothing goes", Check.told("suck = 0;").worst(99, 0), -2);
         due("nothing goes, no GUST: NONE", Check.told("suck = 0;").worst(100, 0), -1);
         due("nothing goes, no WAY: NONE", Check.told("suck = 0;").worst(99, -1), -1);
@@ -623,6 +734,8 @@ public final class RoofEdgesTest {
         test.numbers();
         test.divisionsByZero();
         test.condsJoin();
+        test.besideEachHole();
+        test.varsOfALaw();
         test.bareAndHoles();
         test.draughts();
         test.marksAtTheirEnds();
@@ -632,9 +745,11 @@ public final class RoofEdgesTest {
         test.liftWraps();
         test.leastGusts();
         test.rounds();
+        test.eachCallAlone();
         test.cellsOfLanding();
         test.blown();
         test.carsAndCells();
+        test.cellsAreApart();
         test.manyOnOneCell();
         test.worstCells();
         test.fiveHundredAndTwelveCalls();

@@ -51,7 +51,15 @@ public final class TextEdgesTest {
             x.read();
         }), fresh);
         check.due("a text of blanks is an empty one", Look.at(x -> Check.read(x, " \t\n\r ")), fresh);
+        int[] counts = {4, 4, 0, 0, 16, 0, 0, 0, 0, 0, 0, 0, 0, 20, 5, 30, 25};
+        for (int i = 0; i < counts.length; i++) {
+            due("new: count " + i, new GaleRoof().count(i), counts[i]);
+        }
         GaleRoof x = new GaleRoof();
+        for (int t = 0; t < 16; t++) {
+            due("new: there", x.tile(t, 0), 1);
+            due("new: NAILED, CLIPPED, AGE, MOSS", x.tile(t, 1) + x.tile(t, 2) + x.tile(t, 3) + x.tile(t, 4), 0);
+        }
         due("no FACTS", x.count(5), 0);
         due("no FACTS", x.village(0, 0, 0), 0);
         due("no FACTS", x.village(1, 0, 0), -1);
@@ -138,6 +146,34 @@ public final class TextEdgesTest {
         x.feed(BLANKS, BLANKS, BLANKS, BLANKS, BLANKS);
         due("all of twenty", x.back(20), 0);
         due("one of none", x.back(1), -1);
+    }
+
+    /** What went by back() or read() is not there any more, whatever could have gone on with it. */
+    private void whatWentIsNotRead() {
+        String[] texts = {"lap 12", "lap 1;", "suck=1+", "far==1", "door ab", "door a 0 1 open", "lap 1;  ", "lap 9;!", "far=((", "warn if 1<="};
+        int[] gone = {1, 1, 1, 2, 1, 4, 2, 1, 1, 1};
+        int[] faults = {1, 1, 1, 1, 1, 1, 0, 0, 1, 1};
+        for (int i = 0; i < texts.length; i++) {
+            GaleRoof x = new GaleRoof();
+            Check.feed(x, texts[i]);
+            int left = texts[i].length() - gone[i];
+            due("back of " + texts[i], x.back(gone[i]), left);
+            due("read of what is left of " + texts[i], x.read(), faults[i]);
+            due("place: its end", x.place(), faults[i] == 0 ? -1 : left);
+            Check.feed(x, texts[i]);
+            x.read();
+            due("an empty tape behind " + texts[i], x.read(), 0);
+            due("no FAULT", x.place(), -1);
+        }
+        GaleRoof y = new GaleRoof();
+        for (int i = 0; i < 100; i++) {
+            y.feed(0x39393939, 0x39393939, 0x39393939, 0x39393939, 0x39393939);
+        }
+        due("nines", y.read(), 1);
+        Check.feed(y, "lap 9");
+        due("no nine behind it", y.read(), 1);
+        due("its end", y.place(), 5);
+        due("LAP as it was", y.count(14), 5);
     }
 
     // ---- Promise 5
@@ -401,7 +437,73 @@ public final class TextEdgesTest {
         due("both DOORS", z.door(0, 0) * 1000 + z.door(0, 1) * 100 + z.door(1, 0) * 10 + z.door(1, 1), 1234);
     }
 
+    /** A text is read as on a new object, whatever the two texts ahead of it told. */
+    private void oneTextBehindTheOther() {
+        String full = "roof 6 6 3; weigh 1; lap 2; nail 3; clip 4; years 5; moss 6; nailed if 1 == 1; clipped if 1 == 1; warn if 1 == 1;"
+            + "suck = 1; press = 2; holds = 3; far = 4; door a 3 1 open; door b 1 2 open;";
+        String[] texts = {"", "lap 5;", "door a 0 9; door b 2 8;", "suck = gust;", "press = 9; far = 9;", "warn if age == 3;", "nailed if row == 1; clipped if row == 2;", "roof 2 2 0;"};
+        for (String text : texts) {
+            String due = Look.at(x -> Check.read(x, text));
+            check.due("'" + text + "' behind one", Look.at(x -> {
+                Check.read(x, full);
+                Check.read(x, text);
+            }), due);
+            check.due("'" + text + "' behind two", Look.at(x -> {
+                Check.read(x, full);
+                Check.read(x, full + "suck = 7;");
+                Check.read(x, text);
+            }), due);
+            check.due("'" + text + "' behind one and an empty one", Look.at(x -> {
+                Check.read(x, full);
+                x.read();
+                Check.read(x, text);
+            }), due);
+            check.due("'" + text + "' behind one with a FAULT", Look.at(x -> {
+                Check.read(x, full + "lap 100;");
+                Check.read(x, full.replace(";", " !"));
+                Check.read(x, text);
+            }), due);
+        }
+        // Each of many long ones is told whole.
+        GaleRoof x = new GaleRoof();
+        for (int i = 0; i < 9; i++) {
+            due("a text of 400 TOKENS", Check.read(x, "suck=" + i + "+1".repeat(198) + ";"), 0);
+            due("its law", x.lift(0, 50, 0, 0), i + 198);
+            due("one with a FAULT", Check.read(x, "suck=1" + "+1".repeat(197) + "-gust;;"), 1);
+            due("the law stays", x.lift(0, 50, 0, 0), i + 198);
+        }
+    }
+
     // ---- FAULT 2: ROOM
+
+    /** A TELL set so that each of its TOKENS in turn is the 401st: it is one too many whatever it is. */
+    private void eachTokenAsThe401st() {
+        String[] tells = {
+            "roof 2 2 0 ;", "lap 9 ;", "door a 0 1 ;", "door a 0 1 open ;", "far = 1 + ( 2 - row ) * 3 / ( ( 4 ) ) ;",
+            "nailed if not not 1 == 2 and ( 3 ) != col or not 4 < 5 * 6 and 7 <= 8 + 9 ;", "clipped if 1 < 2 ;", "warn if ( age ) / 2 <= 1 or 2 == 3 ;"};
+        for (String tell : tells) {
+            String[] tokens = tell.split(" ");
+            for (int k = 0; k < tokens.length; k++) {
+                int ahead = 400 - k;
+                int fours = ahead % 3;
+                StringBuilder text = new StringBuilder("far=1;".repeat(fours) + "lap1;".repeat((ahead - 4 * fours) / 3));
+                int place = 0;
+                for (int i = 0; i < tokens.length; i++) {
+                    text.append(' ');
+                    place = i == k ? text.length() : place;
+                    text.append(tokens[i]);
+                }
+                fault(text.toString(), 2, place);
+                fault(text.substring(0, place + tokens[k].length()), 2, place);
+                fault(text.substring(0, place), k == 0 ? 0 : 1, k == 0 ? -1 : place);
+                fault(text.substring(0, place) + "!", 1, place);
+            }
+            // One TOKEN fewer ahead of it, and the whole TELL fits.
+            int ahead = 400 - tokens.length;
+            int fours = ahead % 3;
+            right("far=1;".repeat(fours) + "lap1;".repeat((ahead - 4 * fours) / 3) + tell);
+        }
+    }
 
     private void fourHundredTokens() {
         String all = "far=1;".repeat(100);
@@ -610,6 +712,7 @@ public final class TextEdgesTest {
         test.feedPutsTwentyBytesInOrder();
         test.tapeTakesTwoThousand();
         test.backTakesTheLast();
+        test.whatWentIsNotRead();
         test.placeIsOfTheLatestRead();
         test.everyByte();
         test.blanksBetweenOrNot();
@@ -619,7 +722,9 @@ public final class TextEdgesTest {
         test.everyVarIsAUnit();
         test.bounds();
         test.theLastOneTold();
+        test.oneTextBehindTheOther();
         test.fourHundredTokens();
+        test.eachTokenAsThe401st();
         test.sixOfASort();
         test.sixWithinOneAnother();
         test.namesToldTwice();

@@ -124,6 +124,16 @@ public final class VillageEdgesTest {
             due("some of six", six.warned(age, 0, 0), age >= 1 && age <= 6 ? 1 : 0);
         }
         due("no RULE of another sort", Check.told("nailed if 1 == 1; clipped if 1 == 1;").warned(0, 0, 0), 0);
+        // The age, the WAY and the nails of a FACT, at their ends.
+        GaleRoof facts = Check.told("warn if age == 99 and way == 3 and nails == 9; warn if age + way + nails == 0;");
+        int[][] houses = {{99, 3, 9}, {0, 0, 0}, {98, 3, 9}, {99, 2, 9}, {99, 3, 8}, {1, 0, 0}, {0, 1, 0}, {0, 0, 1}};
+        int[] warned = {0, 1, 2, 2, 2, 2, 2, 2, 2};
+        for (int n = 0; n < houses.length; n++) {
+            facts.house(houses[n][0], houses[n][1], houses[n][2], 5);
+            due("WARNED of " + (n + 1), facts.village(n + 1, 5, 1), warned[n + 1]);
+            due("WARNED and hurt of " + (n + 1), facts.village(n + 1, 5, 3), warned[n + 1]);
+            due("WARNED and hurt more of " + (n + 1), facts.village(n + 1, 6, 3), 0);
+        }
         // FACTS are WARNED by the RULES as they are told now.
         GaleRoof now = village("warn if age < 10;", new int[][] {{9, 0}, {10, 0}});
         due("u", now.village(2, 0, 1), 1);
@@ -259,6 +269,51 @@ public final class VillageEdgesTest {
         due("nothing happened", x.tile(0, 3), 11);
     }
 
+    /** The CELLS of CARS, the GUSTS, WAYS and weights told ahead, told otherwise in the same places meanwhile. */
+    private void slotsHoldEachNumber() {
+        GaleRoof x = Check.told("roof 2 2 0; weigh 0; lap 0; press = 0; far = 0; suck = 1 - (gust - 50) * (gust - 50) - (way - 2) * (way - 2);");
+        for (int i = 0; i < 8; i++) {
+            x.car(i == 7 ? 100 : 0);
+        }
+        for (int i = 0; i < 4; i++) {
+            x.gust(50, 2, 1 + i);
+        }
+        due("HARM", x.harm(), 40);
+        x.hold(0);
+        Check.feed(x, "x");
+        for (int change = 0; change < 3; change++) {
+            x.calm();
+            for (int i = 0; i < 4; i++) {
+                x.gust(change == 0 ? 51 : 50, change == 1 ? 1 : 2, change == 2 ? 9 : 1 + i);
+            }
+            due("HARM of others", x.harm(), change == 2 ? 144 : 0);
+            due("a ninth CAR", x.car(0), -1);
+            x.restore(0);
+            due("HARM as it was", x.harm(), 40);
+        }
+        GaleRoof y = Check.told("roof 2 2 0; weigh 0; lap 0; press = 0; far = 0; suck = 1;");
+        y.hold(1);
+        y.car(0);
+        y.car(100);
+        y.hold(0);
+        y.restore(1);
+        due("no CARS", y.count(6), 0);
+        y.car(2000);
+        y.car(2100);
+        y.hold(1);
+        y.restore(0);
+        y.blow(0, 2);
+        due("CARS on their own CELLS", y.hits(0) * 10 + y.hits(1), 22);
+        y.restore(1);
+        y.blow(0, 2);
+        due("CARS on other CELLS", y.hits(0) * 10 + y.hits(1), 0);
+        y.restore(1);
+        y.blow(0, 0);
+        due("CARS on other CELLS, hit", y.hits(0) * 10 + y.hits(1), 22);
+        y.restore(1);
+        due("hits as they were", y.hits(0) * 10 + y.hits(1), 0);
+    }
+
     private void slotsHoldAllOfIt() {
         GaleRoof x = Check.told("roof 2 2 0; weigh 0; lap 0; press = 0; suck = 1; far = 0; door a 2 5; door b 1 4 open;");
         x.car(2000);
@@ -378,6 +433,7 @@ public final class VillageEdgesTest {
         test.ways();
         test.lines();
         test.slotsAtTheirEnds();
+        test.slotsHoldEachNumber();
         test.slotsHoldAllOfIt();
         test.countsAtTheirEnds();
         test.check.end();
